@@ -671,15 +671,18 @@ public final class ShareHouse {
     }
 
     private void wakeLocks() {
-        for (int i = 0; i < waits.size(); i++) {
-            Asked w = waits.get(i);
+        int many = waits.size();
+        int at = 0;
+        for (int i = 0; i < many && at < waits.size(); i++) {
+            Asked w = waits.get(at);
             if (w.lock != null && locks.size() < LOCKS && canBe(w.lock)) {
                 locks.add(w.lock);
-                waits.remove(i);
-                i--;
+                waits.remove(at);
                 later.begin(HEADER + 4);
                 later.put(64, 2, 4);
                 sendLater(w, OK);
+            } else {
+                at++;
             }
         }
     }
@@ -782,12 +785,15 @@ public final class ShareHouse {
     }
 
     private void cancelLocksThatWait(Open o) {
-        for (int i = 0; i < waits.size(); i++) {
-            Asked w = waits.get(i);
+        int many = waits.size();
+        int at = 0;
+        for (int i = 0; i < many && at < waits.size(); i++) {
+            Asked w = waits.get(at);
             if (w.lock != null && w.lock.open == o) {
-                waits.remove(i);
-                i--;
+                waits.remove(at);
                 sendLater(w, CANCELLED);
+            } else {
+                at++;
             }
         }
     }

@@ -85,6 +85,18 @@ final class Peer {
         return ask(r).status();
     }
 
+    /** With another session and tree. */
+    int status2(Req r, long otherSession, long otherTree) {
+        long mySession = session;
+        long myTree = tree;
+        session = otherSession;
+        tree = otherTree;
+        int status = status(r);
+        session = mySession;
+        tree = myTree;
+        return status;
+    }
+
     /** What came to this peer since. */
     List<Answer> news() {
         return wire.answers(c);
