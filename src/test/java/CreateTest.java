@@ -121,6 +121,9 @@ public final class CreateTest {
         long d = p.openDirectory("Dir");
         Check.eq("below", create(p, "dIR\\f", ALL, 7, 2, 0), Status.OK);
         Check.eq("the same name", create(p, "DIR\\F", ALL, 7, 2, 0), Status.NAME_COLLISION);
+        Check.eq("from a to z", create(p, "dir\\azAZ@[`{", ALL, 7, 2, 0), Status.OK);
+        Check.eq("and A to Z", create(p, "dir\\AZaz@[`{", ALL, 7, 2, 0), Status.NAME_COLLISION);
+        Check.eq("but not beside them", create(p, "dir\\AZaz`{@[", ALL, 7, 1, 0), Status.NAME_NOT_FOUND);
         Check.eq("not in the root", create(p, "F", ALL, 7, 1, 0), Status.NAME_NOT_FOUND);
         long e = p.openDirectory("Dir\\e");
         Check.eq("to go", p.status(Peer.setToGo(e, 1)), Status.OK);

@@ -251,8 +251,8 @@ public final class LockTest {
         long f = p.open("f");
         long g = p.open("f");
         p.ask(Peer.write(f, 0, "0123456789"));
-        p.ask(Peer.lock(f, 2, 2, EXCLUSIVE));
         p.ask(Peer.lock(f, 6, 2, SHARED));
+        p.ask(Peer.lock(f, 2, 2, EXCLUSIVE));
         Check.eq("READ of another, EXCLUSIVE", p.status(Peer.read(g, 0, 3)), Status.LOCK_CONFLICT);
         Check.eq("READ beside it", p.status(Peer.read(g, 0, 2)), Status.OK);
         Check.eq("READ behind it", p.status(Peer.read(g, 4, 6)), Status.OK);

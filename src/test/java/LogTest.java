@@ -80,7 +80,7 @@ public final class LogTest {
         long f = p.open("f");
         p.ask(Peer.write(f, 2, "abcdef"));
         p.ask(Peer.setSize(f, 4));
-        p.ask(Peer.setValues(f, 77, 0, 0, 0, 2));
+        p.ask(Peer.setValues(f, 77, 78, 79, 80, 2));
         p.ask(Peer.rename(f, 1, "old"));
         return p;
     }
@@ -102,6 +102,9 @@ public final class LogTest {
             int[] size = {0, 0, 8, 4, 4, 4, 4};
             Check.eq("SIZE " + k, a.n(112, 8), size[k]);
             Check.eq("made " + k, a.n(72, 8), k >= 4 ? 77 : 10);
+            Check.eq("looked at " + k, a.n(80, 8), k >= 4 ? 78 : 10);
+            Check.eq("written " + k, a.n(88, 8), k >= 4 ? 79 : 10);
+            Check.eq("changed " + k, a.n(96, 8), k == 6 ? 10 : k >= 4 ? 80 : 10);
             Check.eq("ATTRIBUTES " + k, a.n(120, 4), k >= 4 ? 2 : 32);
             if (k >= 2) {
                 Check.eq("bytes " + k, q.ask(Peer.read(a.n(128, 8), 0, 4)).n(80, 4), 'a' << 16 | 'b' << 24);

@@ -17,6 +17,8 @@ public final class MessageTest {
         relatedFiles();
         orderOfLooking();
         cancelsAlone();
+        fillIsZero();
+        wrongFramesEndSessions();
         whatHasNoRoom();
         Check.end("MessageTest");
     }
@@ -174,7 +176,6 @@ public final class MessageTest {
         for (int i = 0; i < 4; i++) {
             Check.eq("ID", all.get(i).id(), p.nextId - 4 + i);
         }
-        p.askAll(Peer.logOff().put(64, 2, 5));
         Answer alone = p.ask(Peer.logOff().put(64, 2, 5));
         Check.eq("an error alone", alone.length(), 73);
     }
@@ -271,6 +272,27 @@ public final class MessageTest {
         List<Answer> answers = p.wire.answers(0);
         Check.eq("only ECHO is answered", answers.size(), 1);
         Check.eq("not filled", answers.get(0).length(), 68);
+    }
+
+    /** What fills an answer is 0, whatever stood there in a message before. */
+    private static void fillIsZero() {
+        Peer p = Peer.fresh();
+        long f = p.open("f");
+        p.ask(Peer.write(f, 0, "~".repeat(1000)));
+        p.askAll(Peer.read(f, 0, 1000), Peer.read(f, 0, 1000));
+        Answer a = p.askAll(Peer.echo(), Peer.echo()).get(0);
+        Check.eq("filled", a.length(), 72);
+        Check.eq("with 0s", a.n(64, 8), 4);
+    }
+
+    private static void wrongFramesEndSessions() {
+        Peer p = Peer.fresh();
+        p.open("f");
+        p.wire.come(0, new byte[] {1, 0, 0, 64});
+        Check.eq("sessions", p.wire.house.told(6), 0);
+        Check.eq("trees", p.wire.house.told(7), 0);
+        Check.eq("opens", p.wire.house.told(3), 0);
+        Check.eq("records came", p.wire.house.told(1), 0);
     }
 
     private static void whatHasNoRoom() {

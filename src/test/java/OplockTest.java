@@ -190,6 +190,7 @@ public final class OplockTest {
     private static void lapses() {
         Peer[] p = peers(2);
         ShareHouse h = p[0].wire.house;
+        h.tick(1000);
         long f = p[0].open("f", 9);
         Check.eq("PENDING", p[1].status(opening("f", 1, 9)), Status.PENDING);
         h.tick(34);

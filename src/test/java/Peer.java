@@ -142,12 +142,12 @@ final class Peer {
     }
 
     static Req create(String path, long access, int share, int disposition, int options, int oplock) {
-        return Req.of(5, 57).put(67, 1, oplock).put(88, 4, access).put(96, 4, share).put(100, 4, disposition)
+        return Req.of(5, 57).put(67, 1, oplock).put(88, 4, access).put(92, 4, 0).put(96, 4, share).put(100, 4, disposition)
                 .put(104, 4, options).text(108, 110, path);
     }
 
     static Req close(long file) {
-        return Req.of(6, 24).file(72, file);
+        return Req.of(6, 24).put(66, 2, 0).file(72, file);
     }
 
     static Req flush(long file) {
@@ -155,7 +155,7 @@ final class Peer {
     }
 
     static Req read(long file, long from, long many) {
-        return Req.of(8, 49).put(68, 4, many).put(72, 8, from).file(80, file);
+        return Req.of(8, 49).put(68, 4, many).put(72, 8, from).file(80, file).put(96, 4, 0);
     }
 
     static Req write(long file, long from, String bytes) {
@@ -170,7 +170,8 @@ final class Peer {
     static Req lock(long file, long... locks) {
         Req r = Req.of(10, 48).put(66, 2, locks.length / 3).file(72, file);
         for (int i = 0; i + 2 < locks.length; i += 3) {
-            r.put(88 + 8 * i, 8, locks[i]).put(96 + 8 * i, 8, locks[i + 1]).put(104 + 8 * i, 8, locks[i + 2]);
+            r.put(88 + 8 * i, 8, locks[i]).put(96 + 8 * i, 8, locks[i + 1]).put(104 + 8 * i, 4, locks[i + 2]);
+            r.length(Math.max(r.size(), 112 + 8 * i));
         }
         return r;
     }
@@ -215,8 +216,8 @@ final class Peer {
     }
 
     static Req rename(long file, int taking, String path) {
-        return set(file, 10, new byte[20 + 2 * path.length()]).put(96, 1, taking).put(112, 4, 2L * path.length())
-                .units(116, path);
+        return set(file, 10, new byte[20 + 2 * path.length()]).put(96, 1, taking).put(97, 7, -1L).put(104, 8, -1L)
+                .put(112, 4, 2L * path.length()).units(116, path);
     }
 
     static Req answerBreak(long file, int level) {

@@ -1,6 +1,6 @@
 import java.io.ByteArrayOutputStream;
 
-/** A request under the hands of a test: bytes that grow where they are put. */
+/** A request under the hands of a test: bytes that grow where they are put. What is not put is noise, as it may be any. */
 final class Req {
     private byte[] bytes = new byte[64];
 
@@ -10,6 +10,9 @@ final class Req {
         put(6, 2, 1);
         put(12, 2, command);
         put(14, 2, 1);
+        put(8, 4, 0x5A5A5A5AL);
+        put(48, 8, 0xA5A5A5A5A5A5A5A5L);
+        put(56, 8, 0x5AA55AA55AA55AA5L);
     }
 
     /** With the body's size first. */
@@ -30,7 +33,11 @@ final class Req {
     }
 
     Req length(int n) {
+        int had = bytes.length;
         bytes = java.util.Arrays.copyOf(bytes, n);
+        for (int i = had; i < n; i++) {
+            bytes[i] = (byte) 0xA7;
+        }
         return this;
     }
 
