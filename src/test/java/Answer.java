@@ -15,6 +15,7 @@ final class Answer {
         int at = 0;
         while (true) {
             Answer rest = new Answer(Arrays.copyOfRange(message, at, message.length));
+            Check.eq("the header's beginning", rest.n(0, 6), 0x0040424D53FEL);
             int next = (int) rest.n(20, 4);
             if (next == 0) {
                 all.add(rest);

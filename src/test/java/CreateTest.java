@@ -412,6 +412,8 @@ public final class CreateTest {
         Check.eq("made", a.n(72, 8), 0);
         p.ask(Peer.write(f, 1, "XY"));
         Check.eq("SIZE stays", p.ask(Peer.info(f, 1, 5, 24)).n(80, 8), 6);
+        Check.eq("and the others", p.ask(Peer.read(f, 0, 6)).n(80, 6),
+                'X' << 8 | 'Y' << 16 | (long) 'a' << 24 | (long) 'b' << 32 | (long) 'c' << 40);
         Check.eq("1025, ahead of FILE", p.status(Peer.write(99, 0, "").put(68, 4, 1025).length(2000)),
                 Status.INVALID_PARAMETER);
         Check.eq("a directory", p.status(Peer.write(d, 0, "x")), Status.IS_A_DIRECTORY);

@@ -244,6 +244,17 @@ public final class LockTest {
         Check.eq("UNLOCK", p.status(Peer.lock(f, 0, 1, UNLOCK)), Status.OK);
         Check.eq("the one that waited", q.news().get(0).status(), 0);
         Check.eq("60 again", w.house.told(4), 60);
+        // two that could be, and room for one
+        Check.eq("one less", p.status(Peer.lock(f, 3, 1, UNLOCK)), Status.OK);
+        Check.eq("waits", q.status(Peer.lock(g, 1, 1, SHARED)), Status.PENDING);
+        Check.eq("waits, too", q.status(Peer.lock(g, 1, 1, SHARED)), Status.PENDING);
+        Check.eq("one more again", p.status(Peer.lock(f, 3, 1, 2)), Status.OK);
+        Check.eq("UNLOCK again", p.status(Peer.lock(f, 1, 1, UNLOCK)), Status.OK);
+        Check.eq("one of them", q.news().size(), 1);
+        Check.eq("60 once more", w.house.told(4), 60);
+        Check.eq("the other waits on", w.house.told(5), 1);
+        Check.eq("another goes", p.status(Peer.lock(f, 3, 1, UNLOCK)), Status.OK);
+        Check.eq("the other one", q.news().size(), 1);
     }
 
     private static void readsAndWrites() {

@@ -15,6 +15,7 @@ public final class LogTest {
         numbersAfterACrash();
         timesOfRoots();
         toGoIsForgotten();
+        bytesComeBack();
         Check.end("LogTest");
     }
 
@@ -213,6 +214,21 @@ public final class LogTest {
         p.wire.house.crash(2);
         Peer q = Peer.on(p.wire, 0);
         Check.eq("came", q.ask(Peer.create("", ALL, 7, 1, 0, 0)).n(120, 4), 18);
+    }
+
+    private static void bytesComeBack() {
+        Peer p = Peer.fresh();
+        long f = p.open("f");
+        p.ask(Peer.write(f, 0, "abcdef"));
+        p.ask(Peer.flush(f));
+        p.ask(Peer.write(f, 2, "XY"));
+        p.ask(Peer.setValues(p.openDirectory(""), 9, 9, 9, 9, 4));
+        Check.eq("crash", p.wire.house.crash(0), 2);
+        Peer q = Peer.on(p.wire, 0);
+        f = q.open("f");
+        Check.eq("as on the disk", q.ask(Peer.read(f, 0, 6)).n(80, 6),
+                'a' | 'b' << 8 | 'c' << 16 | (long) 'd' << 24 | (long) 'e' << 32 | (long) 'f' << 40);
+        Check.eq("the root, too", q.ask(Peer.create("", ALL, 7, 1, 0, 0)).n(120, 4), 16);
     }
 
     private static void toGoIsForgotten() {

@@ -360,10 +360,23 @@ public final class OplockTest {
         Check.eq("tree off", p[1].status(Peer.treeOff()), Status.OK);
         Check.eq("given up", h.told(5), 1);
         Check.eq("without answer", p[1].news().size() + p[1].notes.size(), 0);
+        Peer extra = Peer.on(p[0].wire, 4);
+        Check.eq("waits", extra.status(opening("f", 1, 9)), Status.PENDING);
+        h.hang(4);
+        Check.eq("given up by hang", h.told(5), 1);
+        Check.eq("without answer, too", h.outs(4), 0);
+        extra = Peer.on(p[0].wire, 5);
+        long g = extra.open("g");
+        extra.ask(Peer.lock(g, 0, 1, 2));
+        Check.eq("a lock waits", extra.status(Peer.lock(g, 0, 1, 2)), Status.PENDING);
+        Check.eq("a create waits", extra.status(opening("f", 1, 9)), Status.PENDING);
+        Check.eq("log off", extra.status(Peer.logOff()), Status.OK);
+        Check.eq("given up by LOGOFF", h.told(5), 1);
+        Check.eq("with no answer but its own", extra.notes.size(), 0);
         h.hang(0);
         Check.eq("the other is opened", p[2].news().get(0).n(66, 1), 9);
         Check.eq("the BREAK came to the first", h.outs(0), 92);
-        Check.eq("the file stays", h.told(2), 2);
+        Check.eq("the files stay", h.told(2), 3);
         Check.eq("serial " + f, f, 1);
     }
 
