@@ -437,8 +437,10 @@ public final class ShareHouse {
             status = prepare(a);
         }
         settle();
-        if (status == OK) {
-            status = a.command == CREATE ? openOrWait(a) : a.open == null ? perform(a) : performOnFile(a, a.open);
+        if (status == OK && a.open != null) {
+            status = performOnFile(a, a.open);
+        } else if (status == OK) {
+            status = a.command == CREATE ? openOrWait(a) : perform(a);
         }
         settle();
         finish(a, status);
@@ -651,6 +653,7 @@ public final class ShareHouse {
         }
     }
 
+    /** Does all that is marked, one thing at a time: what an open that was closed made free is taken before the next. */
     private void settle() {
         for (int i = 0; i < GUARD; i++) {
             wakeLocks();
@@ -670,6 +673,7 @@ public final class ShareHouse {
         }
     }
 
+    /** Only locks that went can let one be that waits, so it does no harm to look more often. */
     private void wakeLocks() {
         int many = waits.size();
         int at = 0;
@@ -974,25 +978,25 @@ public final class ShareHouse {
     }
 
     /** Finds what a path leads to; false: a directory on the way is not there. */
-    private boolean walk(Wish p, Node root) {
+    private boolean walk(Wish path, Node root) {
         Node place = root;
         int begin = 0;
-        p.found = p.count == 0 ? root : null;
-        p.place = root;
-        p.nameAt = 0;
-        for (int i = 0; i < p.count; i++) {
-            if (p.unit(i) == PARTING) {
-                place = live.child(place.number, p, begin, i);
+        path.found = path.count == 0 ? root : null;
+        path.place = root;
+        path.nameAt = 0;
+        for (int i = 0; i < path.count; i++) {
+            if (path.unit(i) == PARTING) {
+                place = live.child(place.number, path, begin, i);
                 if (place == null || !place.directory || place.toGo) {
                     return false;
                 }
                 begin = i + 1;
             }
         }
-        if (p.count > 0) {
-            p.place = place;
-            p.nameAt = begin;
-            p.found = live.child(place.number, p, begin, p.count);
+        if (path.count > 0) {
+            path.place = place;
+            path.nameAt = begin;
+            path.found = live.child(place.number, path, begin, path.count);
         }
         return true;
     }
@@ -1666,24 +1670,24 @@ public final class ShareHouse {
         if (20 + pathLength > many) {
             return INFO_LENGTH;
         }
-        Wish p = new Wish();
-        if (!p.takePath(a, at + 20, pathLength)) {
+        Wish path = new Wish();
+        if (!path.takePath(a, at + 20, pathLength)) {
             return NAME_INVALID;
         }
-        if (!walk(p, o.tree.root)) {
+        if (!walk(path, o.tree.root)) {
             return PATH_NOT_FOUND;
         }
-        if (p.count == 0 || n.parent == NONE) {
+        if (path.count == 0 || n.parent == NONE) {
             return ACCESS_DENIED;
         }
-        if (live.isWithin(p.place, n)) {
+        if (live.isWithin(path.place, n)) {
             return INVALID_PARAMETER;
         }
         if (n.directory && isOpenedBelow(n)) {
             return ACCESS_DENIED;
         }
-        if (p.found != null && p.found != n) {
-            Node other = p.found;
+        if (path.found != null && path.found != n) {
+            Node other = path.found;
             if (a.number(at, 1) == 0) {
                 return NAME_COLLISION;
             }
@@ -1693,8 +1697,8 @@ public final class ShareHouse {
             done(nextChange(GONE, other));
         }
         Change r = nextChange(NAME_CHANGED, n);
-        r.parent = p.place.number;
-        p.nameTo(r);
+        r.parent = path.place.number;
+        path.nameTo(r);
         r.changed = now;
         done(r);
         return OK;
@@ -1796,6 +1800,8 @@ public final class ShareHouse {
         boolean there;
         boolean negotiated;
         final Row came = new Row();
+        /** How long the message that comes is, when its first four bytes are there. */
+        long size;
         final Row sent = new Row();
         final long[] free = new long[FREE_MOST];
         int freeCount;
@@ -1827,16 +1833,15 @@ public final class ShareHouse {
             sent.length = 0;
         }
 
-        /** Whether what came is a message; WRONG is known when the first four bytes are there. */
+        /** Whether what came is a message, looked at byte by byte; the first four tell its length, or are WRONG. */
         int frame() {
-            if (came.length < 4) {
-                return NOT_WHOLE;
+            if (came.length == 4) {
+                size = came.number(1, 1) << 16 | came.number(2, 1) << 8 | came.number(3, 1);
+                if (came.number(0, 1) != 0 || size < HEADER || size > MESSAGE_MOST) {
+                    return WRONG;
+                }
             }
-            long size = came.number(1, 1) << 16 | came.number(2, 1) << 8 | came.number(3, 1);
-            if (came.number(0, 1) != 0 || size < HEADER || size > MESSAGE_MOST) {
-                return WRONG;
-            }
-            return came.length < 4 + size ? NOT_WHOLE : WHOLE;
+            return came.length < 4 || came.length < 4 + size ? NOT_WHOLE : WHOLE;
         }
 
         /** Whether a command may come now with this ID, which is taken then. */
@@ -2197,12 +2202,12 @@ public final class ShareHouse {
         }
 
         /** The node of a directory whose NAME stands in a path from a unit up to another one; null: none. */
-        Node child(int directory, Wish p, int begin, int end) {
+        Node child(int directory, Wish path, int begin, int end) {
             for (int i = 0; i < nodes.length; i++) {
                 Node n = nodes[i];
                 boolean same = n.used && n.parent == directory && n.nameLength == end - begin;
                 for (int j = 0; same && j < n.nameLength && j < n.name.length; j++) {
-                    same = upper(p.unit(begin + j)) == upper(n.name[j]);
+                    same = upper(path.unit(begin + j)) == upper(n.name[j]);
                 }
                 if (same) {
                     return n;
