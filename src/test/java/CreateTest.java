@@ -10,13 +10,13 @@ public final class CreateTest {
         parameters();
         access();
         paths();
+        pathsOfDirectories();
         whatIsThere();
         readonly();
         shares();
         whatIsNotThere();
         empties();
         fortyOpens();
-        eightyNodes();
         closes();
         goneOnClose();
         flushes();
@@ -115,6 +115,11 @@ public final class CreateTest {
         for (String s : names) {
             Check.eq("a path " + s, create(p, s, ALL, 7, 2, 0), s.length() > 12 ? Status.NAME_INVALID : Status.OK);
         }
+    }
+
+    private static void pathsOfDirectories() {
+        Peer p = Peer.fresh();
+        p.open("...");
         Check.eq("no directory", create(p, "no\\f", ALL, 7, 3, 0), Status.PATH_NOT_FOUND);
         Check.eq("a file on the way", create(p, "...\\f", ALL, 7, 3, 0), Status.PATH_NOT_FOUND);
         Check.eq("NAME_INVALID is ahead", create(p, "no\\*", ALL, 7, 3, 0), Status.NAME_INVALID);
@@ -173,15 +178,12 @@ public final class CreateTest {
     }
 
     private static void shares() {
-        Peer p = Peer.fresh();
         int[] access = {1, 0x20, 2, 4, 0x10000, 0x80};
         int[] bit = {1, 1, 2, 2, 4, 0};
         for (int i = 0; i < access.length; i++) {
             for (int j = 0; j < access.length; j++) {
                 for (int share = 0; share < 8; share++) {
-                    if ((i + j + share) % 3 != 0) {
-                        continue;
-                    }
+                    Peer p = Peer.fresh();
                     long f = p.ask(Peer.create("f", access[i], share, 3, 0, 0)).n(128, 8);
                     boolean both = bit[i] != 0 && bit[j] != 0;
                     boolean may = !both || (bit[j] & share) != 0;
@@ -201,6 +203,7 @@ public final class CreateTest {
                 }
             }
         }
+        Peer p = Peer.fresh();
         p.openDirectory("d");
         Check.eq("directories, too", create(p, "d", ALL, 3, 1, 0), Status.SHARING);
     }
@@ -244,41 +247,26 @@ public final class CreateTest {
 
     private static void fortyOpens() {
         Peer p = Peer.fresh();
-        for (int i = 1; i <= 40; i++) {
-            Check.eq("open " + i, create(p, "f", ALL, 7, 3, 0), Status.OK);
+        Req[] forty = new Req[40];
+        for (int i = 0; i < 40; i++) {
+            forty[i] = Peer.shortCreate("f", ALL, 7, 3, 0, 0);
         }
+        for (int i = 0; i < 40; i += 20) {
+            for (Answer a : p.askAll(java.util.Arrays.copyOfRange(forty, i, i + 20))) {
+                Check.eq("open", a.status(), Status.OK);
+            }
+        }
+        Check.eq("opens", p.wire.house.told(3), 40);
         Check.eq("the 41st", create(p, "f", ALL, 7, 3, 0), Status.RESOURCES);
         Check.eq("of what is not there", create(p, "g", ALL, 7, 3, 0), Status.RESOURCES);
         Check.eq("behind NAME_NOT_FOUND", create(p, "g", ALL, 7, 1, 0), Status.NAME_NOT_FOUND);
         Check.eq("behind NAME_COLLISION", create(p, "f", ALL, 7, 2, 0), Status.NAME_COLLISION);
+        Check.eq("behind CANNOT_DELETE", create(p, "", ALL, 7, 1, 0x1000), Status.CANNOT_DELETE);
         Check.eq("ahead of SHARING", create(p, "f", ALL, 0, 3, 0), Status.RESOURCES);
-        Check.eq("opens", p.wire.house.told(3), 40);
+        Check.eq("opens still", p.wire.house.told(3), 40);
+        Check.eq("nodes still", p.wire.house.told(2), 2);
         p.ask(Peer.close(7));
         Check.eq("room again", create(p, "f", ALL, 7, 3, 0), Status.OK);
-    }
-
-    private static void eightyNodes() {
-        Peer p = Peer.fresh();
-        for (int i = 1; i < 80; i++) {
-            long f = p.open("n" + i);
-            Check.eq("NUMBER", p.ask(Peer.info(f, 1, 18, 80)).n(136, 8), i);
-            p.ask(Peer.close(f));
-        }
-        Check.eq("the 81st", create(p, "x", ALL, 7, 3, 0), Status.DISK_FULL);
-        Check.eq("one that is there", create(p, "n3", ALL, 7, 3, 0), Status.OK);
-        Check.not("a share", p.wire.share(1, "OTHER"));
-        long f = p.open("n17");
-        p.ask(Peer.setToGo(f, 1));
-        p.ask(Peer.close(f));
-        f = p.open("n5");
-        p.ask(Peer.setToGo(f, 1));
-        p.ask(Peer.close(f));
-        Check.eq("nodes", p.wire.house.told(2), 78);
-        Check.eq("the least free NUMBER", p.ask(Peer.info(p.open("x"), 1, 18, 80)).n(136, 8), 5);
-        Check.is("a share has room", p.wire.share(1, "OTHER"));
-        p.connectTree("OTHER");
-        Check.eq("its NUMBER", p.ask(Peer.info(p.openDirectory(""), 1, 18, 80)).n(136, 8), 17);
-        Check.eq("full again", create(p, "y", ALL, 7, 3, 0), Status.DISK_FULL);
     }
 
     private static void closes() {

@@ -22,6 +22,7 @@ public final class LockTest {
         notTheLast();
         closedWhileWaiting();
         sixtyLocks();
+        roomForOneLock();
         readsAndWrites();
         sizes();
         Check.end("LockTest");
@@ -66,11 +67,11 @@ public final class LockTest {
     }
 
     private static void kinds() {
-        Peer p = Peer.fresh();
-        long f = p.open("f");
-        long g = p.open("f");
         int[][] due = {{1, 1, 1}, {1, 2, 0}, {2, 1, 0}, {2, 2, 0}};
         for (int[] x : due) {
+            Peer p = Peer.fresh();
+            long f = p.open("f");
+            long g = p.open("f");
             for (long other : new long[] {f, g}) {
                 Check.eq("the first", p.status(Peer.lock(f, 10, 10, x[0])), Status.OK);
                 Check.eq("the second " + x[0] + x[1], p.status(Peer.lock(other, 19, 5, x[1] | AT_ONCE)),
@@ -83,6 +84,8 @@ public final class LockTest {
                 Check.eq("none left", p.wire.house.told(4), 0);
             }
         }
+        Peer p = Peer.fresh();
+        long f = p.open("f");
         long h = p.open("h");
         p.ask(Peer.lock(f, 0, 10, 2));
         Check.eq("another file", p.status(Peer.lock(h, 0, 10, 0x12)), Status.OK);
@@ -216,13 +219,13 @@ public final class LockTest {
         Check.eq("no locks", p.wire.house.told(4), 0);
     }
 
-    private static void sixtyLocks() {
+    /** Two peers with an open each of one file; the first has 59 locks: of bytes 0 to 2, and 100 to 155. */
+    private static Peer[] with59Locks() {
         Wire w = new Wire();
         w.share(0, "DATA");
-        Peer p = Peer.on(w, 0);
-        Peer q = Peer.on(w, 1);
-        long f = p.open("f");
-        long g = q.open("f");
+        Peer[] p = {Peer.on(w, 0), Peer.on(w, 1)};
+        p[0].open("f");
+        p[1].open("f");
         for (int i = 0; i < 7; i++) {
             long[] eight = new long[24];
             for (int j = 0; j < 8; j++) {
@@ -230,31 +233,41 @@ public final class LockTest {
                 eight[3 * j + 1] = 1;
                 eight[3 * j + 2] = 0x12;
             }
-            Check.eq("eight", p.status(Peer.lock(f, eight)), Status.OK);
+            Check.eq("eight", p[0].status(Peer.lock(1, eight)), Status.OK);
         }
-        Check.eq("three", p.status(Peer.lock(f, 0, 1, 0x12, 1, 1, 0x12, 2, 1, 0x12)), Status.OK);
+        Check.eq("three", p[0].status(Peer.lock(1, 0, 1, 0x12, 1, 1, 0x12, 2, 1, 0x12)), Status.OK);
         Check.eq("59", w.house.told(4), 59);
-        Check.eq("waits", q.status(Peer.lock(g, 0, 1, 2)), Status.PENDING);
-        Check.eq("two more", p.status(Peer.lock(f, 3, 1, 0x12, 4, 1, 0x12)), Status.RESOURCES);
-        long h = q.open("f", 1);
-        Check.eq("LEVEL II is not to be had with locks", q.ask(Peer.info(h, 1, 5, 24)).status(), 0);
-        Check.eq("one more", p.status(Peer.lock(f, 3, 1, 2)), Status.OK);
-        Check.eq("60", w.house.told(4), 60);
-        Check.eq("the 61st", q.status(Peer.lock(g, 0, 1, 2)), Status.RESOURCES);
-        Check.eq("UNLOCK", p.status(Peer.lock(f, 0, 1, UNLOCK)), Status.OK);
-        Check.eq("the one that waited", q.news().get(0).status(), 0);
-        Check.eq("60 again", w.house.told(4), 60);
-        // two that could be, and room for one
-        Check.eq("one less", p.status(Peer.lock(f, 3, 1, UNLOCK)), Status.OK);
-        Check.eq("waits", q.status(Peer.lock(g, 1, 1, SHARED)), Status.PENDING);
-        Check.eq("waits, too", q.status(Peer.lock(g, 1, 1, SHARED)), Status.PENDING);
-        Check.eq("one more again", p.status(Peer.lock(f, 3, 1, 2)), Status.OK);
-        Check.eq("UNLOCK again", p.status(Peer.lock(f, 1, 1, UNLOCK)), Status.OK);
-        Check.eq("one of them", q.news().size(), 1);
-        Check.eq("60 once more", w.house.told(4), 60);
-        Check.eq("the other waits on", w.house.told(5), 1);
-        Check.eq("another goes", p.status(Peer.lock(f, 3, 1, UNLOCK)), Status.OK);
-        Check.eq("the other one", q.news().size(), 1);
+        return p;
+    }
+
+    private static void sixtyLocks() {
+        Peer[] p = with59Locks();
+        House h = p[0].wire.house;
+        Check.eq("waits", p[1].status(Peer.lock(2, 0, 1, 2)), Status.PENDING);
+        Check.eq("two more", p[0].status(Peer.lock(1, 3, 1, 0x12, 4, 1, 0x12)), Status.RESOURCES);
+        Check.eq("none of them", h.told(4), 59);
+        Check.eq("one more", p[0].status(Peer.lock(1, 3, 1, 2)), Status.OK);
+        Check.eq("60", h.told(4), 60);
+        Check.eq("the 61st", p[1].status(Peer.lock(2, 0, 1, 2)), Status.RESOURCES);
+        Check.eq("of another place, too", p[1].status(Peer.lock(2, 500, 1, 0x11)), Status.RESOURCES);
+        Check.eq("UNLOCK", p[0].status(Peer.lock(1, 0, 1, UNLOCK)), Status.OK);
+        Check.eq("the one that waited", p[1].news().get(0).status(), 0);
+        Check.eq("60 again", h.told(4), 60);
+    }
+
+    /** Two that could be, and room for one. */
+    private static void roomForOneLock() {
+        Peer[] p = with59Locks();
+        House h = p[0].wire.house;
+        Check.eq("waits", p[1].status(Peer.lock(2, 1, 1, SHARED)), Status.PENDING);
+        Check.eq("waits, too", p[1].status(Peer.lock(2, 1, 1, SHARED)), Status.PENDING);
+        Check.eq("one more", p[0].status(Peer.lock(1, 3, 1, 2)), Status.OK);
+        Check.eq("UNLOCK", p[0].status(Peer.lock(1, 1, 1, UNLOCK)), Status.OK);
+        Check.eq("one of them", p[1].news().size(), 1);
+        Check.eq("60", h.told(4), 60);
+        Check.eq("the other waits on", h.told(5), 1);
+        Check.eq("another goes", p[0].status(Peer.lock(1, 3, 1, UNLOCK)), Status.OK);
+        Check.eq("the other one", p[1].news().size(), 1);
     }
 
     private static void readsAndWrites() {

@@ -189,7 +189,7 @@ public final class OplockTest {
 
     private static void lapses() {
         Peer[] p = peers(2);
-        ShareHouse h = p[0].wire.house;
+        House h = p[0].wire.house;
         h.tick(1000);
         long f = p[0].open("f", 9);
         Check.eq("PENDING", p[1].status(opening("f", 1, 9)), Status.PENDING);
@@ -209,7 +209,7 @@ public final class OplockTest {
 
     private static void lapsesBySerials() {
         Peer[] p = peers(3);
-        ShareHouse h = p[0].wire.house;
+        House h = p[0].wire.house;
         p[0].open("a", 9);
         p[0].open("b", 9);
         p[1].ask(opening("b", 1, 0));
@@ -291,7 +291,7 @@ public final class OplockTest {
         p[0].open("f", 9);
         p[1].ask(opening("f", 1, 0));
         p[2].ask(opening("f", 1, 0));
-        ShareHouse h = p[0].wire.house;
+        House h = p[0].wire.house;
         h.drop(0);
         p[1].wire.send(1, Peer.cancel().flags(2).put(32, 8, 2));
         Check.eq("of another connection", h.told(5), 2);
@@ -353,7 +353,7 @@ public final class OplockTest {
 
     private static void sessionsThatEnd() {
         Peer[] p = peers(3);
-        ShareHouse h = p[0].wire.house;
+        House h = p[0].wire.house;
         long f = p[0].open("f", 9);
         p[1].ask(opening("f", 1, 9));
         p[2].ask(opening("f", 1, 9));

@@ -146,6 +146,12 @@ final class Peer {
                 .put(104, 4, options).text(108, 110, path);
     }
 
+    /** The same in 120 bytes: a path of up to 10 units stands where the body may have any bytes. */
+    static Req shortCreate(String path, long access, int share, int disposition, int options, int oplock) {
+        return Req.of(5, 57).put(67, 1, oplock).put(88, 4, access).put(92, 4, 0).put(96, 4, share).put(100, 4, disposition)
+                .put(104, 4, options).textAt(108, 110, 68, path);
+    }
+
     static Req close(long file) {
         return Req.of(6, 24).put(66, 2, 0).file(72, file);
     }

@@ -15,8 +15,8 @@ public final class RandomTest {
     public static void main(String[] args) {
         for (int i = 0; i < RUNS; i++) {
             Random r = new Random(i);
-            Wire one = new Wire();
-            Wire two = new Wire();
+            Wire one = new Wire(House.withoutEnd());
+            Wire two = new Wire(House.withoutEnd());
             for (Wire w : new Wire[] {one, two}) {
                 w.share(0, "DATA");
             }
@@ -27,7 +27,7 @@ public final class RandomTest {
                 looks(one);
             }
             for (int c = 0; c < 6; c++) {
-                Check.is("the same bytes", java.util.Arrays.equals(one.bytes(c), two.bytes(c)));
+                Check.is("the same bytes", java.util.Arrays.equals(one.house.bytes(c), two.house.bytes(c)));
                 one.answers(c);
             }
         }
@@ -98,7 +98,7 @@ public final class RandomTest {
 
     /** The highest ID answered so far, and one. */
     private static long lowestUnused(Wire w, int c) {
-        byte[] all = w.bytes(c);
+        byte[] all = w.house.bytes(c);
         long highest = 2;
         int at = 0;
         while (at + 4 < all.length) {

@@ -57,6 +57,17 @@ final class Req {
         return units(where, text);
     }
 
+    /** Puts a text where the body has room for it, told by where and how long at two places of 2 bytes. */
+    Req textAt(int whereAt, int longAt, int where, String text) {
+        return put(whereAt, 2, where).put(longAt, 2, 2L * text.length()).units(where, text);
+    }
+
+    Req copy() {
+        Req r = new Req(0);
+        r.bytes = bytes.clone();
+        return r;
+    }
+
     Req units(int at, String text) {
         for (int i = 0; i < text.length(); i++) {
             put(at + 2 * i, 2, text.charAt(i));

@@ -4,7 +4,15 @@ import java.util.List;
 
 /** A house with its tape, for tests. */
 final class Wire {
-    final ShareHouse house = new ShareHouse();
+    final House house;
+
+    Wire() {
+        this(House.within512());
+    }
+
+    Wire(House house) {
+        this.house = house;
+    }
 
     void tape(byte[] bytes) {
         int had = 0;
@@ -46,17 +54,9 @@ final class Wire {
         return all;
     }
 
-    byte[] bytes(int c) {
-        byte[] all = new byte[Math.max(0, house.outs(c))];
-        for (int i = 0; i < all.length; i++) {
-            all[i] = (byte) house.out(c, i);
-        }
-        return all;
-    }
-
     /** All messages in an OUT, which is empty then. */
     ArrayDeque<List<Answer>> take(int c) {
-        byte[] all = bytes(c);
+        byte[] all = house.bytes(c);
         house.drop(c);
         ArrayDeque<List<Answer>> messages = new ArrayDeque<>();
         int at = 0;
