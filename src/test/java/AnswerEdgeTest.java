@@ -17,6 +17,8 @@ public final class AnswerEdgeTest {
         whatIsLostIsDoneAllTheSame();
         breaksAreLostToo();
         connectEmptiesOut();
+        framesOfWhatIsSent();
+        lostToOneThatIsNotThere();
         laterAnswersGoAhead();
         asyncNumbersFrom1();
         sixteenWait();
@@ -170,6 +172,42 @@ public final class AnswerEdgeTest {
         Check.is("connect", p.wire.house.connect(2));
         Check.eq("empty", p.wire.house.outs(2), 0);
         Check.eq("no byte", p.wire.house.out(2, 0), -1);
+    }
+
+    /** "each is sent as MESSAGES come, behind a byte 0 and its length", whatever stood in the OUT before. */
+    private static void framesOfWhatIsSent() {
+        Peer p = Peer.fresh();
+        p.open("f");
+        p.ask(Peer.write(1, 0, "~".repeat(1024)));
+        p.wire.send(0, p.mine(Peer.read(1, 0, 1024)), p.mine(Peer.read(1, 0, 1024)));
+        Check.eq("a length of more than one byte", p.wire.house.out(0, 2), (80 + 1024 + 1104) / 256);
+        Check.eq("its lowest byte", p.wire.house.out(0, 3), (80 + 1024 + 1104) % 256);
+        p.wire.house.drop(0);
+        for (int i = 0; i < 3; i++) {
+            p.wire.send(0, p.mine(Peer.echo()));
+        }
+        for (int at = 0; at < 216; at += 72) {
+            Check.eq("a byte 0", p.wire.house.out(0, at), 0);
+            Check.eq("the highest byte", p.wire.house.out(0, at + 1), 0);
+            Check.eq("the middle one", p.wire.house.out(0, at + 2), 0);
+            Check.eq("the lowest", p.wire.house.out(0, at + 3), 68);
+        }
+    }
+
+    /** "and so is what is sent to one that is not there any more (its sessions ending)". */
+    private static void lostToOneThatIsNotThere() {
+        Peer[] p = two();
+        p[0].open("f", 9);
+        p[0].open("g", 9);
+        Check.eq("waits", p[1].status(Peer.shortCreate("f", ALL, 7, 1, 0, 0)), Status.PENDING);
+        p[0].ask(Peer.rename(1, 0, "x"));
+        p[0].ask(Peer.rename(2, 0, "f"));
+        p[0].wire.send(0, p[0].mine(Peer.echo()));
+        // f is the second open's file by now: that is BROKEN while the session ends, before it is closed, too
+        p[0].wire.house.hang(0);
+        Check.eq("no BREAK came", p[0].wire.house.outs(0), 72);
+        Check.eq("opened", p[1].news().get(0).status(), Status.OK);
+        Check.eq("none waits", p[0].wire.house.told(5), 0);
     }
 
     /** "Messages of their own, which go at once (ahead of the answers of a message that is not done)". */

@@ -29,6 +29,7 @@ public final class BodyEdgeTest {
         whereAPatternIs();
         whereInfoIs();
         notInTheNextRequest();
+        farFromTheHeader();
         Check.end("BodyEdgeTest");
     }
 
@@ -340,6 +341,32 @@ public final class BodyEdgeTest {
         Check.eq("none, anywhere", p.status(r.copy().put(72, 2, 0).put(68, 4, 0)), Status.INFO_LENGTH);
         Check.eq("none, far behind", p.status(r.copy().put(72, 2, 0xFFFF).put(68, 4, 0)), Status.INFO_LENGTH);
         Check.eq("SIZE", p.ask(Peer.info(1, 1, 5, 24)).n(80, 8), 5);
+    }
+
+    /** Where has 2 bytes: what is asked stands at 300. */
+    private static void farFromTheHeader() {
+        Peer p = begun();
+        p.setUp("first");
+        Check.eq("a user", p.status(Req.of(1, 25).put(300, 1, 'u').put(76, 2, 300).put(78, 2, 1).put(80, 8, 0)), Status.OK);
+        p.session = 1;
+        // the name that it was set up with is u: so it is ended by that
+        Check.eq("sessions", p.wire.house.told(6), 3);
+        p.ask(Peer.setUp("u", 3));
+        Check.eq("it ended", p.wire.house.told(6), 3);
+        Check.eq("a share's path", p.status(Req.of(3, 9).textAt(68, 70, 300, "DATA")), Status.OK);
+        Req create = Peer.create("", ALL, 7, 2, 0, 0).textAt(108, 110, 300, "far");
+        Check.eq("a path", p.status(create), Status.OK);
+        Check.eq("its name", p.status(Peer.create("FAR", ALL, 7, 1, 0, 0)), Status.OK);
+        p.ask(Peer.write(1, 0, "").put(300, 1, '!').put(66, 2, 300).put(68, 4, 1));
+        Check.eq("bytes", p.ask(Peer.read(1, 0, 1)).n(80, 1), '!');
+        Answer a = p.ask(Peer.list(2, 12, 1, "", 100).textAt(88, 90, 300, "far"));
+        Check.eq("a pattern", a.n(80, 4), 6);
+        p.ask(Peer.set(1, 20, bytesOf(8)).put(300, 8, 77).put(72, 2, 300));
+        Check.eq("info", p.ask(Peer.info(1, 1, 5, 24)).n(80, 8), 77);
+    }
+
+    private static byte[] bytesOf(int many) {
+        return new byte[many];
     }
 
     /** "It ends where the next one begins, or the message ends." */

@@ -37,6 +37,7 @@ public final class CreateEdgeTest {
         notThere();
         whatIsMade();
         emptied();
+        emptiedByHalf();
         serialsFrom1();
         orderOfLooking();
         orderOfWhatIsThere();
@@ -444,6 +445,27 @@ public final class CreateEdgeTest {
         p.ask(Peer.write(1, 0, "abc"));
         for (int d : new int[] {1, 3}) {
             Check.eq("opened by " + d, p.ask(Peer.create("f", ALL, 7, d, 0, 0)).n(112, 8), 3);
+        }
+    }
+
+    /** "its SIZE is 0, written and changed NOW; then ATTRIBUTES": two RECORDS, of which the first alone may come. */
+    private static void emptiedByHalf() {
+        for (int k = 0; k <= 2; k++) {
+            Peer p = Peer.fresh();
+            p.open("f");
+            p.ask(Peer.write(1, 0, "abc"));
+            p.ask(Peer.setValues(1, 1, 2, 3, 4, 2));
+            p.ask(Peer.flush(1));
+            p.wire.house.tick(50);
+            p.ask(Peer.create("f", 1, 7, 0, 0, 0).put(92, 4, 4));
+            Check.eq("crash", p.wire.house.crash(k), 2);
+            Answer a = Peer.on(p.wire, 0).ask(Peer.create("f", 1, 7, 1, 0, 0));
+            Check.eq("SIZE " + k, a.n(112, 8), k == 0 ? 3 : 0);
+            Check.eq("made " + k, a.n(72, 8), 1);
+            Check.eq("looked at " + k, a.n(80, 8), 2);
+            Check.eq("written " + k, a.n(88, 8), k == 0 ? 3 : 50);
+            Check.eq("changed " + k, a.n(96, 8), k == 0 ? 4 : 50);
+            Check.eq("ATTRIBUTES " + k, a.n(120, 4), k == 2 ? 4 | 32 : 2);
         }
     }
 

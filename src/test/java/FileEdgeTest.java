@@ -130,6 +130,10 @@ public final class FileEdgeTest {
         p.ask(Peer.close(2));
         Check.eq("gone", p.wire.house.told(2), 1);
         Check.eq("on the disk, too", p.wire.house.told(8), 1);
+        p.ask(Peer.create("r", ALL, 7, 3, 0x1000, 0));
+        p.ask(Peer.setValues(4, 0, 0, 0, 0, 1));
+        p.ask(Peer.close(4));
+        Check.eq("READONLY by then: it goes", p.wire.house.told(2), 1);
     }
 
     /** "if it was the last open of a node that is to go, the node goes". */

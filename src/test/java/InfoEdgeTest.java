@@ -244,7 +244,12 @@ public final class InfoEdgeTest {
         times("all 8 bytes", a, -1L, 1L << 63, 1, Long.MAX_VALUE);
         Check.eq("ATTRIBUTES", a.n(104, 4), 0x27);
         Check.eq("one record", p.wire.house.told(1), 2);
-        Check.eq("in a list", p.ask(Peer.list(p.openDirectory(""), 1, 0, "f", 100)).n(80, 8), -1L);
+        times("in a list", new Answer(java.util.Arrays.copyOfRange(
+                p.ask(Peer.list(p.openDirectory(""), 1, 0, "f", 100)).bytes, 8, 120)), -1L, 1L << 63, 1, Long.MAX_VALUE);
+        p.ask(Peer.setValues(1, 1L << 56, 3L << 56, 5L << 56, 7L << 56, 0));
+        times("by QUERY_INFO", p.ask(Peer.info(1, 1, 18, 80)), 1L << 56, 3L << 56, 5L << 56, 7L << 56);
+        times("by CREATE", p.ask(Peer.create("f", 0x80, 7, 1, 0, 0)), 1L << 56, 3L << 56, 5L << 56, 7L << 56);
+        times("by CLOSE", p.ask(Peer.close(1).put(66, 2, 1)), 1L << 56, 3L << 56, 5L << 56, 7L << 56);
     }
 
     /** "changed is NOW, if it is not told". */
@@ -260,7 +265,7 @@ public final class InfoEdgeTest {
 
     /** "16 is not looked at: 16 alone: none of them". */
     private static void attributesOf16() {
-        int[][] of = {{16, 128}, {16 | 2, 2}, {16 | 32, 32}, {8, 128}, {64, 128}, {128, 128}, {0x100, 128}, {128 | 1, 1}};
+        int[][] of = {{16, 128}, {16 | 2, 2}, {16 | 32, 32}, {8, 128}, {64, 128}, {128, 128}, {0x100, 128}, {0x01000000, 128}, {128 | 1, 1}};
         for (int[] x : of) {
             Peer p = withFile();
             p.ask(Peer.setValues(1, 0, 0, 0, 0, x[0]));
@@ -517,6 +522,17 @@ public final class InfoEdgeTest {
         p.openDirectory("d");
         p.ask(Peer.close(3));
         Check.eq("open itself, and the one above", p.status(Peer.rename(1, 0, "n")), Status.OK);
+        // the eldest open of all is the one below
+        Peer q = Peer.fresh();
+        q.openDirectory("d");
+        q.ask(Peer.close(1));
+        q.wire.house.crash(0);
+        q = Peer.on(q.wire, 0);
+        q.open("d\\x");
+        q.openDirectory("d");
+        Check.eq("the eldest open", q.status(Peer.rename(2, 0, "n")), Status.ACCESS_DENIED);
+        q.ask(Peer.close(1));
+        Check.eq("none any more", q.status(Peer.rename(2, 0, "n")), Status.OK);
     }
 
     /** "(in this order: its path, PATH_NOT_FOUND, roots, below itself, what is open below, what is there)". */

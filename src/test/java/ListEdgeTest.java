@@ -33,6 +33,9 @@ public final class ListEdgeTest {
         whatGoes();
         namesBehindTheLast();
         entriesAreFilled();
+        unitsOf2Bytes();
+        longestNames();
+        namesThatWereLonger();
         Check.end("ListEdgeTest");
     }
 
@@ -360,6 +363,37 @@ public final class ListEdgeTest {
         // the same letters are the same name
         p.ask(Peer.rename(4, 0, "E"));
         is("E is not behind e", list(p, 0, "", 1024), NO_MORE);
+    }
+
+    /** A unit of a pattern has 2 bytes: none above 126 matches, or is a * or ?. */
+    private static void unitsOf2Bytes() {
+        Peer p = with("a", "b");
+        for (String s : new String[] {"\u0161", "\u6100", "\u012A", "\u013F", "\u2A00", "a\u0100", "\uFF41"}) {
+            is("pattern", list(p, 1, s, 1024), NO_SUCH);
+        }
+    }
+
+    private static void longestNames() {
+        Peer p = Peer.fresh();
+        p.openDirectory("");
+        p.open("abcdefghijkl");
+        p.open("abcdefghijk");
+        is("both", list(p, 0, "*", 1024), ".|..|abcdefghijk|abcdefghijkl");
+        is("by itself", list(p, 1, "ABCDEFGHIJKL", 1024), "abcdefghijkl");
+        is("by ?", list(p, 1, "????????????", 1024), "abcdefghijkl");
+        is("its last unit", list(p, 1, "*l", 1024), "abcdefghijkl");
+        is("one unit more", list(p, 1, "?????????????", 1024), NO_SUCH);
+    }
+
+    /** A NAME that was longer once counts as it is now. */
+    private static void namesThatWereLonger() {
+        Peer p = with("azzz", "ab", "b");
+        p.ask(Peer.rename(2, 0, "a"));
+        is("the first", list(p, 3, "?*", 1024), ".");
+        is("the second", list(p, 2, "", 1024), "..");
+        is("a", list(p, 2, "", 1024), "a");
+        is("ab is behind a", list(p, 2, "", 1024), "ab");
+        is("not az*", list(p, 1, "az*", 1024), NO_SUCH);
     }
 
     /** "Each but the last is filled with 0s until 8 divides it, NEXT telling that." */

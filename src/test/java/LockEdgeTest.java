@@ -242,6 +242,12 @@ public final class LockEdgeTest {
         Check.eq("another open's", p.status(Peer.lock(2, 10, 10, 4)), Status.RANGE_NOT_LOCKED);
         Check.eq("it is there", p.wire.house.told(4), 1);
         Check.eq("just that", lock(p, 10, 10, 4), Status.OK);
+        lock(p, -2L, 1, 2);
+        Check.eq("not without its highest byte", lock(p, -2L >>> 8, 1, 4), Status.RANGE_NOT_LOCKED);
+        Check.eq("with it", lock(p, -2L, 1, 4), Status.OK);
+        lock(p, 1, -2L, 2);
+        Check.eq("many, not without its highest byte", lock(p, 1, -2L >>> 8, 4), Status.RANGE_NOT_LOCKED);
+        Check.eq("many, with it", lock(p, 1, -2L, 4), Status.OK);
     }
 
     /** "none: RANGE_NOT_LOCKED (those before are done)". */

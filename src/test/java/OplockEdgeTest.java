@@ -36,6 +36,9 @@ public final class OplockEdgeTest {
         fromThePathOn();
         waitsOnForAnother();
         doneAgainIsAnsweredOnce();
+        brokenSinceItWasDoneAgain();
+        lapsesWhenNoneWaits();
+        fortyOpensByThen();
         Check.end("OplockEdgeTest");
     }
 
@@ -506,6 +509,58 @@ public final class OplockEdgeTest {
         Check.eq("it waits on", p[0].wire.house.told(5), 1);
         p[0].ask(Peer.answerBreak(2, 0));
         Check.eq("opened", p[1].news().get(0).status(), Status.OK);
+    }
+
+    /** A BREAK that is sent for a CREATE that is done again begins then. */
+    private static void brokenSinceItWasDoneAgain() {
+        Peer[] p = peers(3);
+        House h = p[0].wire.house;
+        p[0].open("f", 9);
+        p[1].ask(opening("f", 1, 9));
+        p[2].ask(opening("f", 1, 9));
+        h.tick(30);
+        p[0].ask(Peer.close(1));
+        Check.eq("the first has BATCH, and is BROKEN", p[1].news().size(), 2);
+        h.tick(34);
+        Check.eq("34 went by since", h.told(5), 1);
+        h.tick(1);
+        Check.eq("35", p[2].news().get(0).n(66, 1), 1);
+    }
+
+    /** It is BROKEN, and lapses, though the CREATE that it was BROKEN for is given up. */
+    private static void lapsesWhenNoneWaits() {
+        Peer[] p = peers(2);
+        House h = p[0].wire.house;
+        p[0].open("f", 9);
+        p[1].ask(opening("f", 1, 0));
+        p[1].wire.send(1, Peer.cancel().id(p[1].nextId - 1));
+        p[1].news();
+        p[0].news();
+        h.tick(34);
+        Check.eq("BROKEN still", p[1].status(opening("f", 1, 0)), Status.PENDING);
+        Check.eq("without another BREAK", p[0].news().size(), 0);
+        p[1].wire.send(1, Peer.cancel().id(p[1].nextId - 1));
+        p[1].news();
+        h.tick(1);
+        Check.eq("it has 0 then", p[1].ask(opening("f", 1, 9)).n(66, 1), 1);
+        Check.eq("and nothing is sent", p[0].news().size(), 0);
+    }
+
+    /** "40 opens: RESOURCES", of a CREATE that is done again, too. */
+    private static void fortyOpensByThen() {
+        Peer[] p = peers(2);
+        p[0].open("f", 9);
+        Check.eq("waits", p[1].status(opening("f", 1, 0)), Status.PENDING);
+        Req[] many = new Req[39];
+        for (int i = 0; i < many.length; i++) {
+            many[i] = Peer.shortCreate("g", 1, 1, 3, 0, 0);
+        }
+        p[0].askAll(java.util.Arrays.copyOf(many, 20));
+        p[0].askAll(java.util.Arrays.copyOfRange(many, 20, 39));
+        Check.eq("40", p[0].wire.house.told(3), 40);
+        Check.eq("answered", p[0].status(Peer.answerBreak(1, 0)), Status.OK);
+        Check.eq("RESOURCES", p[1].news().get(0).status(), Status.RESOURCES);
+        Check.eq("none waits", p[0].wire.house.told(5), 0);
     }
 
     /** "later, once, with FLAGS ASYNC and that number". */

@@ -26,6 +26,7 @@ public final class SessionEdgeTest {
         sixteenTrees();
         disconnectClosesOpens();
         whatWaitsIsGivenUp();
+        sessionsEndBySerials();
         echoNeedsNothing();
         cancelByNumber();
         cancelById();
@@ -146,7 +147,7 @@ public final class SessionEdgeTest {
     private static void formerThatIsNone() {
         Peer p = Peer.bare(new Wire(), 0);
         p.setUp("u");
-        long[] none = {0, 50, 99, -1L, 1L << 32 | 1, 1L << 63};
+        long[] none = {0, 50, 99, -1L, 1L << 32 | 1, 1L << 56 | 1, 1L << 63};
         for (int i = 0; i < none.length; i++) {
             Check.eq("former " + none[i], p.status(Peer.setUp("u", none[i])), Status.OK);
             Check.eq("sessions", p.wire.house.told(6), i + 2);
@@ -250,6 +251,13 @@ public final class SessionEdgeTest {
             Check.eq("no share: " + s, p.status(Peer.tree(s)), Status.BAD_SHARE);
         }
         Check.eq("trees", p.wire.house.told(7), 1 + fits.length);
+        Peer q = Peer.fresh();
+        Check.eq("a long way", q.status(Peer.tree("x".repeat(200) + "\\DATA")), Status.OK);
+        Check.eq("a \\ behind its end", q.status(Peer.tree("DATA\\").put(70, 2, 8)), Status.OK);
+        Check.eq("015C is no \\", q.status(Peer.tree("x\u015CDATA")), Status.BAD_SHARE);
+        Check.eq("nor is 5C00", q.status(Peer.tree("\u5C00DATA")), Status.BAD_SHARE);
+        Check.eq("units stand at even places", q.status(Peer.tree("\u5C41\u4400\u4100\u5400\u4100\u0000")),
+                Status.BAD_SHARE);
     }
 
     /** "(..; an odd length: INVALID_PARAMETER)". */
@@ -341,6 +349,32 @@ public final class SessionEdgeTest {
         }
     }
 
+    /** "its sessions end (by serials)": not by the serials of their trees or opens. */
+    private static void sessionsEndBySerials() {
+        for (int how = 0; how < 2; how++) {
+            Wire w = shared();
+            Peer p = Peer.bare(w, 0);
+            p.setUp("one");
+            p.setUp("two");
+            p.connectTree("DATA");
+            p.open("a", 9);
+            p.session = 1;
+            p.connectTree("DATA");
+            p.open("b", 9);
+            Peer q = Peer.on(w, 1);
+            Check.eq("for a", q.status(Peer.shortCreate("a", ALL, 7, 1, 0, 0)), Status.PENDING);
+            Check.eq("for b", q.status(Peer.shortCreate("b", ALL, 7, 1, 0, 0)), Status.PENDING);
+            if (how == 0) {
+                w.house.hang(0);
+            } else {
+                w.come(0, new byte[] {1, 0, 0, 0});
+            }
+            List<Answer> news = q.news();
+            Check.eq("b, of the first session", news.get(0).async(), 2);
+            Check.eq("then a", news.get(1).async(), 1);
+        }
+    }
+
     /** ECHO needs neither SESSION nor TREE. */
     private static void echoNeedsNothing() {
         Peer p = Peer.bare(new Wire(), 0);
@@ -372,7 +406,7 @@ public final class SessionEdgeTest {
         Wire w = p[0].wire;
         w.send(0, Peer.cancel().flags(2).put(32, 8, 2).id(p[0].nextId - 1));
         Check.eq("of another connection", w.house.told(5), 2);
-        w.send(0, Peer.cancel().flags(2).put(32, 8, 1L << 32 | 1));
+        w.send(0, Peer.cancel().flags(2).put(32, 8, 1L << 32 | 1), Peer.cancel().flags(2).put(32, 8, 1L << 56 | 1));
         Check.eq("all 8 bytes of it", w.house.told(5), 2);
         w.send(0, Peer.cancel().flags(2).put(32, 8, 0).id(p[0].nextId - 1));
         Check.eq("not by ID then", w.house.told(5), 2);
@@ -392,7 +426,7 @@ public final class SessionEdgeTest {
         Wire w = p[0].wire;
         w.send(0, Peer.cancel().id(p[0].nextId).put(32, 8, 1));
         Check.eq("another ID, not by number", w.house.told(5), 2);
-        w.send(0, Peer.cancel().id(p[0].nextId - 1 | 1L << 40));
+        w.send(0, Peer.cancel().id(p[0].nextId - 1 | 1L << 40), Peer.cancel().id(p[0].nextId - 1 | 1L << 56));
         Check.eq("all 8 bytes of it", w.house.told(5), 2);
         w.send(0, Peer.cancel().id(p[0].nextId - 1).put(32, 8, 2));
         Check.eq("it", w.house.told(5), 1);
