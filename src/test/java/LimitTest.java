@@ -26,6 +26,7 @@ public final class LimitTest {
         theLastNode();
         noNodeForAShare();
         theLastNodeForAShare();
+        fortyOpensOf80Nodes();
         Check.end("LimitTest");
     }
 
@@ -33,6 +34,12 @@ public final class LimitTest {
         for (int i = from; i < from + many; i++) {
             next.add(Peer.shortCreate("n" + i, ALL, 7, 2, 0, 0).related());
         }
+    }
+
+    /** The same as the beginning of a message, whose first one is not RELATED. */
+    private void make(int from, int many, long tree) {
+        next.add(Peer.shortCreate("n" + from, ALL, 7, 2, 0, 0).in(1, tree));
+        make(from + 1, many - 1);
     }
 
     /** Ends the tree, and with it all opens, of which there may be 40; the next tree is another one of the same share. */
@@ -95,5 +102,24 @@ public final class LimitTest {
         t.fill(76);
         Check.is("the 80th node", t.wire.share(3, "D"));
         Check.eq("nodes", t.wire.house.told(2), 80);
+    }
+
+    /** "40 opens: RESOURCES (ahead of DISK_FULL)". */
+    private static void fortyOpensOf80Nodes() {
+        LimitTest t = new LimitTest(4);
+        t.make(0, 31);
+        byte[] first = t.message();
+        t.make(31, 5, 1);
+        t.closeAll(1);
+        t.make(36, 26);
+        Check.eq("two messages", t.wire.come(0, joined(first, t.message())), 2);
+        t.make(62, 14, 2);
+        t.next.add(Peer.shortCreate("x", ALL, 7, 3, 0, 0).related());
+        Check.eq("the third", t.wire.come(0, t.message()), 1);
+        Check.eq("nodes", t.wire.house.told(2), 80);
+        Check.eq("opens", t.wire.house.told(3), 40);
+        List<Answer> all = t.wire.answers(0);
+        Check.eq("the 80th node", all.get(all.size() - 2).status(), Status.OK);
+        Check.eq("the next", all.get(all.size() - 1).status(), Status.RESOURCES);
     }
 }
