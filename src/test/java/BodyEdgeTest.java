@@ -273,6 +273,7 @@ public final class BodyEdgeTest {
         Check.eq("one behind", p.status(longer.copy().put(68, 2, 73)), Status.INVALID_PARAMETER);
         Check.eq("an odd length, not within", p.status(longer.copy().put(68, 2, 72).put(70, 2, 3)),
                 Status.INVALID_PARAMETER);
+        Check.eq("longer by 256", p.status(r.copy().put(68, 2, 66).put(70, 2, 258)), Status.INVALID_PARAMETER);
         Check.eq("none, anywhere", p.status(r.copy().put(68, 2, 0).put(70, 2, 0)), Status.BAD_SHARE);
         Check.eq("none, far behind", p.status(r.copy().put(68, 2, 0xFFFF).put(70, 2, 0)), Status.BAD_SHARE);
     }
@@ -287,6 +288,7 @@ public final class BodyEdgeTest {
         Check.eq("its last bytes", p.status(r.copy().units(118, "f").put(108, 2, 118)), Status.OK);
         Check.eq("one behind", p.status(r.copy().units(118, "f").put(108, 2, 119)), Status.INVALID_PARAMETER);
         Check.eq("ahead of NAME_INVALID", p.status(r.copy().put(110, 2, 0xFFFF)), Status.INVALID_PARAMETER);
+        Check.eq("longer by 256", p.status(r.copy().put(110, 2, 258)), Status.INVALID_PARAMETER);
         Check.eq("none, anywhere", p.status(r.copy().put(108, 2, 0).put(110, 2, 0)), Status.OK);
         Check.eq("none, far behind", p.status(r.copy().put(108, 2, 0xFFFF).put(110, 2, 0)), Status.OK);
         // at 64 stands the body's size, 57 or 9: a file of this name was made
@@ -319,6 +321,7 @@ public final class BodyEdgeTest {
         Check.eq("at 64", p.status(r.copy().put(88, 2, 64)), Status.NO_SUCH_FILE);
         Check.eq("one behind", p.status(r.copy().put(88, 2, 97)), Status.INVALID_PARAMETER);
         Check.eq("ahead of NAME_INVALID", p.status(r.copy().put(90, 2, 99)), Status.INVALID_PARAMETER);
+        Check.eq("longer by 256", p.status(r.copy().put(90, 2, 258)), Status.INVALID_PARAMETER);
         Check.eq("ahead of FILE", p.status(r.copy().put(88, 2, 97).file(72, 77)), Status.INVALID_PARAMETER);
         Check.eq("not the first time: within all the same", p.status(r.copy().put(67, 1, 0).put(88, 2, 97)),
                 Status.INVALID_PARAMETER);
@@ -336,6 +339,7 @@ public final class BodyEdgeTest {
         Check.eq("one more", p.status(r.copy().put(68, 4, 9)), Status.INVALID_PARAMETER);
         Check.eq("without sign", p.status(r.copy().put(68, 4, 0xFFFFFFFFL)), Status.INVALID_PARAMETER);
         Check.eq("that wraps around", p.status(r.copy().put(68, 4, 0xFFFFFFA0L)), Status.INVALID_PARAMETER);
+        Check.eq("longer by 2^24", p.status(r.copy().put(68, 4, 0x01000008)), Status.INVALID_PARAMETER);
         Check.eq("ahead of FILE", p.status(r.copy().put(68, 4, 9).file(80, 77)), Status.INVALID_PARAMETER);
         Check.eq("ahead of the class", p.status(r.copy().put(68, 4, 9).put(67, 1, 99)), Status.INVALID_PARAMETER);
         Check.eq("none, anywhere", p.status(r.copy().put(72, 2, 0).put(68, 4, 0)), Status.INFO_LENGTH);

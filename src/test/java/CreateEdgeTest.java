@@ -21,6 +21,7 @@ public final class CreateEdgeTest {
         accessOfNone();
         goneOnCloseNeedsDelete();
         oddPaths();
+        namesThatAreNone();
         pathsAbove240();
         theRoot();
         directoriesOnTheWay();
@@ -193,6 +194,20 @@ public final class CreateEdgeTest {
                 Status.NAME_INVALID);
         Check.eq("even", p.status(Peer.create("abcd", ALL, 7, 3, 0, 0).put(110, 2, 4)), Status.OK);
         Check.eq("its name", create(p, "AB", ALL, 7, 1, 0), Status.OK);
+    }
+
+    /** "a NAME that is none: NAME_INVALID", wherever it stands in the path. */
+    private static void namesThatAreNone() {
+        Peer p = Peer.fresh();
+        p.openDirectory("d");
+        p.openDirectory("d\\e");
+        for (String s : new String[] {"*", "..", "1234567890123", "", "a/b"}) {
+            Check.eq("the first: " + s, create(p, s + "\\e\\f", ALL, 7, 3, 0), Status.NAME_INVALID);
+            Check.eq("the second: " + s, create(p, "d\\" + s + "\\f", ALL, 7, 3, 0), Status.NAME_INVALID);
+            Check.eq("the last: " + s, create(p, "d\\e\\" + s, ALL, 7, 3, 0), Status.NAME_INVALID);
+        }
+        Check.eq("none of those", create(p, "d\\e\\f", ALL, 7, 3, 0), Status.OK);
+        Check.eq("nodes", p.wire.house.told(2), 4);
     }
 
     /** "one above 240". */

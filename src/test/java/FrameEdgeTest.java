@@ -298,6 +298,14 @@ public final class FrameEdgeTest {
             Check.eq("not answered", p.wire.house.outs(0), 0);
             Check.eq("but done", other.status(Peer.create("made", Peer.ALL, 7, 1, 0, 0)), Status.OK);
         }
+        // one whose own NEXT is wrong is not done: 124 is not divided by 8, 120 and 128 leave less than 64
+        for (int next : new int[] {124, 120, 128, 184, 192}) {
+            Peer p = Peer.fresh();
+            Req make = p.mine(Peer.shortCreate("made", Peer.ALL, 7, 3, 0, 0)).length(next == 124 ? 240 : 180).put(20, 4, next);
+            Check.eq("done " + next, p.wire.send(0, make), 1);
+            Check.not("cut " + next, p.wire.house.isOpen(0));
+            Check.eq("nothing made " + next, p.wire.house.told(2), 1);
+        }
         // what would stand behind it is not done
         Peer p = Peer.fresh();
         Req bad = p.mine(Peer.echo()).flags(1);

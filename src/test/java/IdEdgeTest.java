@@ -105,6 +105,8 @@ public final class IdEdgeTest {
         Wire u = connected();
         Check.eq("16 of 17", credits(u, Peer.negotiate().id(0).credits(17)), 16);
         Check.is("17 is not free", cut(u, 17));
+        Wire s = connected();
+        Check.eq("16 of 256", credits(s, Peer.negotiate().id(0).credits(256)), 16);
         Wire t = connected();
         Check.eq("16 of 65535", credits(t, Peer.negotiate().id(0).credits(65535)), 16);
         Check.not("16 is free", cut(t, 16));

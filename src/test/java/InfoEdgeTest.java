@@ -206,6 +206,7 @@ public final class InfoEdgeTest {
         p.ask(Peer.create("f", 0x80, 7, 3, 0, 0));
         Check.eq("FILE", p.status(Peer.set(9, 99, bytes(0))), Status.FILE_CLOSED);
         Check.eq("the class", p.status(Peer.set(1, 99, bytes(0))), Status.INVALID_INFO_CLASS);
+        Check.eq("the kind", p.status(Peer.set(1, 20, bytes(7)).put(66, 1, 2)), Status.INVALID_INFO_CLASS);
         Check.eq("how long", p.status(Peer.set(1, 20, bytes(7))), Status.INFO_LENGTH);
         Check.eq("ACCESS", p.status(Peer.setSize(1, 5000)), Status.ACCESS_DENIED);
         Check.eq("ACCESS of 13", p.status(Peer.setToGo(1, 1)), Status.ACCESS_DENIED);

@@ -36,6 +36,7 @@ public final class ListEdgeTest {
         unitsOf2Bytes();
         longestNames();
         namesThatWereLonger();
+        namesWithoutTheirPath();
         Check.end("ListEdgeTest");
     }
 
@@ -383,6 +384,23 @@ public final class ListEdgeTest {
         is("by ?", list(p, 1, "????????????", 1024), "abcdefghijkl");
         is("its last unit", list(p, 1, "*l", 1024), "abcdefghijkl");
         is("one unit more", list(p, 1, "?????????????", 1024), NO_SUCH);
+    }
+
+    /** A node's NAME is what stands behind the last \ of the path that it was made by, or moved to. */
+    private static void namesWithoutTheirPath() {
+        Peer p = Peer.fresh();
+        p.openDirectory("dir");
+        p.openDirectory("dir\\e");
+        p.open("dir\\x");
+        p.open("dir\\e\\yy");
+        is("dir", list(p, 1, "", 1024), ".|..|e|x");
+        is("dir\\e", p.ask(Peer.list(2, 12, 1, "", 1024)), ".|..|yy");
+        p.ask(Peer.rename(3, 0, "dir\\e\\zz"));
+        is("moved", p.ask(Peer.list(2, 12, 1, "", 1024)), ".|..|yy|zz");
+        is("not where it was", list(p, 1, "", 1024), ".|..|e");
+        p.openDirectory("");
+        p.ask(Peer.rename(4, 0, "w"));
+        is("to the root", p.ask(Peer.list(5, 12, 1, "", 1024)), ".|..|dir|w");
     }
 
     /** A NAME that was longer once counts as it is now. */
