@@ -164,6 +164,9 @@ public final class IdEdgeTest {
         all[0] = Peer.negotiate().id(0).credits(1);
         for (int i = 1; i < 20; i++) {
             all[i] = Peer.echo().id(i).credits(1);
+            if (i % 2 == 0) {
+                all[i].related();
+            }
         }
         Check.eq("one message", w.send(0, all), 1);
         Check.is("stands", w.house.isOpen(0));
