@@ -226,7 +226,7 @@ public final class CreateEdgeTest {
         Check.eq("240, made", create(q, path.substring(0, 119) + "x", ALL, 7, 3, 0), Status.OK);
     }
 
-    /** ""\"\" is the root". */
+    /** An empty path is the root. */
     private static void theRoot() {
         Peer p = Peer.fresh();
         Answer a = p.ask(Peer.create("", ALL, 7, 1, 0, 9));
