@@ -653,7 +653,7 @@ public final class ShareHouse {
         }
     }
 
-    /** Does all that is marked, one thing at a time: what an open that was closed made free is taken before the next. */
+    /** Does all that is marked, one at a time: what an open that was closed made free is taken before the next. */
     private void settle() {
         for (int i = 0; i < GUARD; i++) {
             wakeLocks();
@@ -2265,7 +2265,8 @@ public final class ShareHouse {
                 Arrays.fill(n.data, n.size, size, (byte) 0);
             }
             n.size = size;
-            if (r.kind == BYTES_PUT && r.from >= 0 && r.many >= 0 && r.from + r.many <= size && r.many <= r.bytes.length) {
+            boolean fits = r.from >= 0 && r.many >= 0 && r.from + r.many <= size && r.many <= r.bytes.length;
+            if (r.kind == BYTES_PUT && fits) {
                 System.arraycopy(r.bytes, 0, n.data, r.from, r.many);
             }
         }
